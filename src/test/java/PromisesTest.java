@@ -22,11 +22,13 @@ public final class PromisesTest {
         return Checks.withSong(text);
     }
 
-    /** A march of nine sung beats and a pause to a song, in the midst of it. */
+    /** A march in its second song, in a gasp on a muddy hill, so that most of its numbers are not 0. */
     private static MarchMetres underWay() {
-        MarchMetres x = sings("ud'/q");
-        x.pave(20, 1, true);
-        x.march(3);
+        MarchMetres x = sings("ud'/qd");
+        x.pave(5, 1, true);
+        x.pave(20, 3, true);
+        x.march(34);
+        walkIs("under way", x, "34 187 1 1 0 1 12 10 1 17 4 4 1 21 0");
         return x;
     }
 
@@ -88,12 +90,12 @@ public final class PromisesTest {
         Checks.write(x, "ud/");
         due("3: it ends too early", x.read(), Checks.BAD_TEXT);
         due("3: the pad stays", x.count(11), 3);
-        due("3: nothing is recorded", x.count(12), 3);
+        due("3: nothing is recorded", x.count(12), 4);
         Checks.same("3: an error changes nothing", Checks.picture(x), before);
         x.put(Checks.asNumber("q'q"));
         due("3: read", x.read(), 2);
         due("3: the pad is empty", x.count(11), 0);
-        due("3: it is a change", x.count(12), 4);
+        due("3: it is a change", x.count(12), 5);
         walkIs("3: begun anew", x, FRESH);
         due("3: feet of line 0", x.line(0, 0), 2);
         due("3: foot 0 0", x.foot(0, 0, 0), 2);
@@ -147,7 +149,7 @@ public final class PromisesTest {
         due("4: BAD_VALUE goes before TOO_MANY", x.pave(0, 0, false), Checks.BAD_VALUE);
         due("4: twelve stay", x.count(9), 12);
         x = underWay();
-        due("4: behind the others", x.pave(4, 0, false), 1);
+        due("4: behind the others", x.pave(4, 0, false), 2);
         walkIs("4: begun anew", x, FRESH);
     }
 
@@ -194,10 +196,12 @@ public final class PromisesTest {
         due("6: without anything", x.begin(), 0);
         due("6: it is a change, also when nothing differs", x.count(12), 1);
         x = underWay();
-        due("6: three beats", x.begin(), 3);
+        due("6: 34 beats", x.begin(), 34);
         walkIs("6: begun anew", x, FRESH);
         due("6: again", x.begin(), 0);
-        due("6: recorded", x.count(12), 5);
+        due("6: recorded", x.count(12), 6);
+        x.march(4);
+        walkIs("6: the mud is new, too", x, "4 20 0 1 2 0 3 22 0 3 1 0 0 4 0");
         x.set(4, 8);
         x.march(2);
         x.begin();
@@ -705,6 +709,13 @@ public final class PromisesTest {
         due("17: breath enough", x.bestPause(), 0);
         x.set(4, 12);
         due("17: 0 to 9 by counting", x.bestPause(), bestByTrying(x));
+        x = shortOfBreath(1, 9, "uq'");
+        x.set(4, 19);
+        x.pave(9, 2, false);
+        due("17: 8 beats of a pause instead of 9 of a gasp", x.bestPause(), 8);
+        due("17: 8 by counting", bestByTrying(x), 8);
+        x.set(3, 2);
+        due("17: 4 beats that bring back twice as much", x.bestPause(), 4);
         x = shortOfBreath(1, 9, "u'");
         x.pave(4, 3, false);
         due("17: a gasp is shortened by no pause", x.bestPause(), bestByTrying(x));
@@ -797,7 +808,7 @@ public final class PromisesTest {
         due("19: it is empty", x.count(11), 0);
         due("19: again", x.wipe(), 0);
         due("19: its fault", x.fault(), 0);
-        due("19: it is no change", x.count(12), 3);
+        due("19: it is no change", x.count(12), 4);
         Checks.same("19: all else stays", Checks.picture(x), before);
         due("19: put begins anew", x.put('q'), 1);
         due("19: and nothing is left of the old text", x.fault(), Checks.NONE);
@@ -905,6 +916,9 @@ public final class PromisesTest {
         x.save(0);
         x.undo();
         due("21: the slot stays", x.restore(0), beats + 4);
+        Checks.sing(x, "qq'");
+        x.undo();
+        due("21: the marks are back", x.foot(0, 0, 1) * 10 + x.foot(0, 1, 1), 10);
     }
 
     private static void promise22() {
@@ -914,20 +928,20 @@ public final class PromisesTest {
         due("22: no slot MIN", x.save(MIN), Checks.BAD_VALUE);
         due("22: no slot MAX", x.save(MAX), Checks.BAD_VALUE);
         String before = Checks.picture(x);
-        due("22: save", x.save(0), 3);
+        due("22: save", x.save(0), 34);
         Checks.same("22: nothing else changes", Checks.picture(x), before);
-        due("22: it is no change", x.count(12), 3);
+        due("22: it is no change", x.count(12), 4);
         due("22: the other slot", x.restore(1), Checks.NOT_POSSIBLE);
         x.march(2);
-        due("22: save in the other", x.save(1), 5);
+        due("22: save in the other", x.save(1), 36);
         x.begin();
-        due("22: restore", x.restore(0), 3);
-        due("22: restore the other", x.restore(1), 5);
+        due("22: restore", x.restore(0), 34);
+        due("22: restore the other", x.restore(1), 36);
         x.begin();
         due("22: overwrite", x.save(1), 0);
         x.march(1);
         due("22: what was saved last", x.restore(1), 0);
-        due("22: the other slot keeps its own", x.restore(0), 3);
+        due("22: the other slot keeps its own", x.restore(0), 34);
     }
 
     private static void promise23() {
@@ -937,7 +951,7 @@ public final class PromisesTest {
         due("23: no slot MIN", x.restore(MIN), Checks.BAD_VALUE);
         due("23: no slot MAX", x.restore(MAX), Checks.BAD_VALUE);
         due("23: nothing was saved", x.restore(0), Checks.NOT_POSSIBLE);
-        due("23: errors record nothing", x.count(12), 3);
+        due("23: errors record nothing", x.count(12), 4);
         String saved = Checks.picture(x);
         int beats = x.untilWalked(0);
         x.save(0);
@@ -948,13 +962,13 @@ public final class PromisesTest {
         x.march(4);
         String before = Checks.picture(x);
         Checks.write(x, "dd");
-        due("23: restore tells the beats of the march that is back", x.restore(0), 3);
+        due("23: restore tells the beats of the march that is back", x.restore(0), 34);
         Checks.same("23: as it was saved", Checks.picture(x), saved);
         due("23: it goes on as before", x.untilWalked(0), beats);
         due("23: the pad stays", x.count(11), 2);
         due("23: the history goes on", x.count(12), 6);
         x.march(500);
-        due("23: the slot keeps it", x.restore(0), 3);
+        due("23: the slot keeps it", x.restore(0), 34);
         Checks.same("23: as it was saved, again", Checks.picture(x), saved);
         x.undo();
         x.undo();
