@@ -1,18 +1,37 @@
 /** Counts the answers that are not as due, brings texts onto the pad, and pictures a state. */
 final class Checks {
     static final int NO_SUCH = -1, BAD_VALUE = -2, BAD_TEXT = -3, TOO_MANY = -4, NOT_POSSIBLE = -5, NONE = -6;
+    static final int TEMPO = 0, PAUSE = 1, GASP = 2, REST = 3, BREATH = 4, MUD = 5;
 
     private static int wrong = 0;
     private static int asked = 0;
+    private static int sentences = 0;
+    private static int askedBefore = 0;
+    private static String sentence = "";
 
     private Checks() {
+    }
+
+    /** What follows tests this sentence of the document. */
+    static void sentence(String where, String words) {
+        eachSentenceIsTested();
+        sentences++;
+        sentence = where + " \"" + words + "\": ";
+    }
+
+    private static void eachSentenceIsTested() {
+        if (sentences > 0 && asked == askedBefore) {
+            wrong++;
+            System.out.println(sentence + "nothing was asked");
+        }
+        askedBefore = asked;
     }
 
     static void due(String what, long got, long want) {
         asked++;
         if (got != want) {
             wrong++;
-            System.out.println(what + " answered " + got + ", due is " + want);
+            System.out.println(sentence + what + " answered " + got + ", due is " + want);
         }
     }
 
@@ -20,7 +39,7 @@ final class Checks {
         asked++;
         if (!got.equals(want)) {
             wrong++;
-            System.out.println(what + " is\n  " + got + ", due is\n  " + want);
+            System.out.println(sentence + what + " is\n  " + got + ", due is\n  " + want);
         }
     }
 
@@ -29,7 +48,9 @@ final class Checks {
     }
 
     static void end(String test) {
-        System.out.println(test + ": " + asked + " answers, " + wrong + " not as due");
+        eachSentenceIsTested();
+        String of = sentences == 0 ? "" : sentences + " sentences, ";
+        System.out.println(test + ": " + of + asked + " answers, " + wrong + " not as due");
         if (wrong != 0 || asked == 0) {
             System.exit(1);
         }
@@ -64,24 +85,61 @@ final class Checks {
         return x;
     }
 
+    /** On a steep hill each step but the first needs a gasp of nine beats now. */
+    static void breathless(MarchMetres x) {
+        x.set(BREATH, 5);
+        x.set(REST, 1);
+        x.set(GASP, 9);
+    }
+
     /** What the calls tell of the settings, the song, the road and the march. */
     static String picture(MarchMetres x) {
         StringBuilder all = new StringBuilder();
         for (int what = 0; what <= 10; what++) {
             all.append(x.count(what)).append(' ');
         }
-        for (int line = 0; line < x.count(6); line++) {
+        int lines = x.count(6);
+        for (int line = 0; line < lines; line++) {
             all.append('/');
-            for (int foot = 0; foot < x.line(line, 0); foot++) {
+            int feet = x.line(line, 0);
+            for (int foot = 0; foot < feet; foot++) {
                 all.append(x.foot(line, foot, 0)).append(x.foot(line, foot, 1) == 1 ? "'" : "");
             }
         }
-        for (int stretch = 0; stretch < x.count(9); stretch++) {
+        int stretches = x.count(9);
+        for (int stretch = 0; stretch < stretches; stretch++) {
             for (int what = 0; what <= 2; what++) {
                 all.append(what == 0 ? " _" : ",").append(x.stretch(stretch, what));
             }
         }
-        return all.append(" ; ").append(walked(x)).toString();
+        return all.append(" ; ").append(walked(x)).append(" ; ").append(ahead(x)).toString();
+    }
+
+    /** How the march would go on tells how many beats were sung on the stretch, which no call says. */
+    private static String ahead(MarchMetres x) {
+        StringBuilder all = new StringBuilder();
+        for (int what = 0; what <= 3; what++) {
+            all.append(x.untilWalked(what)).append(' ');
+        }
+        return all.append(x.together()).toString();
+    }
+
+    /**
+     * A picture of everything: the state, the pad, the history and the slots. It uses the object up,
+     * so ask two that were made alike when one of them has to be used on.
+     */
+    static String whole(MarchMetres x) {
+        StringBuilder all = new StringBuilder();
+        all.append("now ").append(picture(x));
+        all.append("\npad ").append(x.count(11)).append(' ').append(x.fault());
+        all.append("\nhistory ").append(x.count(12));
+        for (int n = 0; n < 10 && x.undo() != NOT_POSSIBLE; n++) {
+            all.append("\n  ").append(picture(x));
+        }
+        for (int slot = 0; slot <= 1; slot++) {
+            all.append("\nslot ").append(slot).append(' ').append(x.restore(slot)).append(' ').append(picture(x));
+        }
+        return all.append("\nread ").append(x.read()).append(' ').append(picture(x)).toString();
     }
 
     /** What walk tells, 0 to 14. */
