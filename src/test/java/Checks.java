@@ -112,16 +112,9 @@ final class Checks {
                 all.append(what == 0 ? " _" : ",").append(x.stretch(stretch, what));
             }
         }
-        return all.append(" ; ").append(walked(x)).append(" ; ").append(ahead(x)).toString();
-    }
-
-    /** How the march would go on tells how many beats were sung on the stretch, which no call says. */
-    private static String ahead(MarchMetres x) {
-        StringBuilder all = new StringBuilder();
-        for (int what = 0; what <= 3; what++) {
-            all.append(x.untilWalked(what)).append(' ');
-        }
-        return all.append(x.together()).toString();
+        // How the march would go on tells how many beats were sung on the stretch, which no call says.
+        all.append(" ; ").append(walked(x)).append(" ; ").append(x.untilWalked(0)).append(' ').append(x.untilWalked(1));
+        return all.append(' ').append(x.together()).toString();
     }
 
     /**
@@ -137,9 +130,11 @@ final class Checks {
             all.append("\n  ").append(picture(x));
         }
         for (int slot = 0; slot <= 1; slot++) {
-            all.append("\nslot ").append(slot).append(' ').append(x.restore(slot)).append(' ').append(picture(x));
+            int beats = x.restore(slot);
+            all.append("\nslot ").append(slot).append(' ').append(beats).append(beats < 0 ? "" : picture(x));
         }
-        return all.append("\nread ").append(x.read()).append(' ').append(picture(x)).toString();
+        int lines = x.read();
+        return all.append("\nread ").append(lines).append(lines < 0 ? "" : picture(x)).toString();
     }
 
     /** What walk tells, 0 to 14. */

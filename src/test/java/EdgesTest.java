@@ -744,8 +744,7 @@ public final class EdgesTest {
         sentence(18, "a code is not 33 to 126");
         for (int code = 0; code <= 255; code++) {
             boolean isBad = code < 33 || code > 126;
-            due("code " + code, x.put(code), isBad ? Checks.BAD_VALUE : 1);
-            x.wipe();
+            due("code " + code, new MarchMetres().put(code), isBad ? Checks.BAD_VALUE : 1);
         }
         int[] bad = {1, 32, 127, 128, 255};
         for (int place = 0; place < 8; place++) {

@@ -862,7 +862,7 @@ public final class PromisesTest {
     private static void promise21() {
         MarchMetres x = new MarchMetres();
         due("21: nothing to undo", x.undo(), Checks.NOT_POSSIBLE);
-        Checks.write(x, "ud'/q");
+        Checks.write(x, "u'q");
         String[] before = new String[6];
         before[0] = Checks.picture(x);
         x.read();
@@ -884,6 +884,7 @@ public final class PromisesTest {
         }
         due("21: no more", x.undo(), Checks.NOT_POSSIBLE);
         due("21: the pad stays, as read left it", x.count(11), 1);
+        x = new MarchMetres();
         for (int value = 1; value <= 9; value++) {
             x.set(0, value);
         }
