@@ -237,6 +237,11 @@ public final class EdgesTest {
             due("steps of " + n, x.stretch(n, 0), n + 2);
         }
         due("one in the midst", x.tear(4), 6);
+        MarchMetres y = fullRoad();
+        y.tear(0);
+        due("the twelfth is the eleventh", y.stretch(10, 0), 12);
+        y.pave(50, 0, false);
+        due("and stays it", y.stretch(10, 0) * 100 + y.stretch(11, 0), 1250);
         due("before it", x.stretch(3, 0), 5);
         due("behind it", x.stretch(4, 0), 7);
         x = on("u", 1, -3, true);
@@ -541,6 +546,9 @@ public final class EdgesTest {
         }
         x.march(1);
         due("a gasp that has begun is not told", x.untilWalked(2), 1);
+        x = on("u", 7, 0, false);
+        x.march(5);
+        due("nor are songs that were sung", x.untilWalked(3), 1);
 
         sentence(13, "NONE if it is not walked in 5000 beats.");
         x = gasping(500);
@@ -945,6 +953,27 @@ public final class EdgesTest {
         walkIs("before it", x, "7 34 1 0 1 0 5 22 0 5 1 0 0 6 0");
         due("slot 0 stays", x.restore(0), 9);
         due("slot 1 stays", x.restore(1), 7);
+        bringsBackSongs();
+    }
+
+    /** A long song with marks, replaced by a short one without, and the other way round. */
+    private static void bringsBackSongs() {
+        sentence(21, "everything except the pad, the slots and the history: the song, too");
+        String[] songs = {"u'd/q'/dddddddddddq'", "q"};
+        for (int old = 0; old <= 1; old++) {
+            MarchMetres x = Checks.withSong(songs[old]);
+            String before = Checks.picture(x);
+            x.save(1);
+            Checks.sing(x, songs[1 - old]);
+            String behind = Checks.picture(x);
+            x.undo();
+            Checks.same("undone", Checks.picture(x), before);
+            Checks.sing(x, songs[1 - old]);
+            x.restore(1);
+            Checks.same("restored", Checks.picture(x), before);
+            x.undo();
+            Checks.same("restoring is undone", Checks.picture(x), behind);
+        }
     }
 
     private static void promise22() {
