@@ -761,7 +761,7 @@ public final class MarchMetres {
                 oldest = placeOf(1);
                 size--;
             }
-            State kept = states[placeOf(size)];
+            State kept = stateAt(size);
             if (kept != null) {
                 kept.copyFrom(state);
                 size++;
@@ -773,10 +773,15 @@ public final class MarchMetres {
                 return;
             }
             size--;
-            State kept = states[placeOf(size)];
+            State kept = stateAt(size);
             if (kept != null) {
                 state.copyFrom(kept);
             }
+        }
+
+        private State stateAt(int behindOldest) {
+            int place = placeOf(behindOldest);
+            return place >= 0 && place < MOST_STATES ? states[place] : null;
         }
 
         private int placeOf(int behindOldest) {
